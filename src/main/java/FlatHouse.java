@@ -196,6 +196,7 @@ public final class FlatHouse {
         /** In the order of the kinds above, from CLASS on. */
         private static final String KEYWORDS = "class value global fun byte int long float any null new if else while return out lock spawn try catch fail len hash not is as with ";
         private static final String SIGNS = "{}()[],;.!=<+-*/%";
+        private static final long GREATEST = 2147483647L;
 
         final int[] kind;
         final int[] place;
@@ -280,11 +281,11 @@ public final class FlatHouse {
             long number = 0;
             int at = start;
             while (at < length && isDigit(text[at])) {
-                number = Math.min(number * 10 + text[at] - '0', 1L << 31);
+                number = Math.min(number * 10 + text[at] - '0', GREATEST + 1);
                 at++;
             }
             worth[total] = number;
-            kind[total] = number > Integer.MAX_VALUE ? BAD : NUMBER;
+            kind[total] = number > GREATEST ? BAD : NUMBER;
             return at;
         }
 
@@ -617,7 +618,9 @@ public final class FlatHouse {
         }
 
         int readClassName() {
-            need(Words.NAME);
+            if (kind() != Words.NAME) {
+                stop(CANT_STAND, at);
+            }
             int c = plan.findClass(worth());
             if (c == NONE) {
                 stop(NONE_THERE, at);
@@ -829,7 +832,9 @@ public final class FlatHouse {
                         t = Plan.INT;
                         break;
                     case Words.AS:
-                        t = readAs(t);
+                        int word = in.at;
+                        in.pass();
+                        t = turnInto(in.readType(false), t, word);
                         break;
                     case Words.WITH:
                         t = readWith(t, depth);
@@ -879,10 +884,7 @@ public final class FlatHouse {
             plan.emit(Plan.IS, in.readClassName());
         }
 
-        private int readAs(int left) {
-            int word = in.at;
-            in.pass();
-            int t = in.readType(false);
+        private int turnInto(int t, int left, int word) {
             if (Plan.isNumber(left) != Plan.isNumber(t)) {
                 in.stop(Reader.UNFIT, word);
             }
@@ -1421,25 +1423,29 @@ public final class FlatHouse {
     private static final class Floats {
         static final int NO_NUMBER = 0x7fc00000;
         private static final int INFINITE = 0x7f800000;
+        private static final int SIGN = 0x80000000;
+        private static final int ALL_BUT_SIGN = 0x7fffffff;
+        private static final long GREATEST_LONG = 0x7fffffffffffffffL;
+        private static final long GREATEST_INT = 0x7fffffffL;
         private static final int LEAST_POWER = -149;
 
         private Floats() {
         }
 
         private static boolean isNoNumber(int a) {
-            return (a & Integer.MAX_VALUE) > INFINITE;
+            return (a & ALL_BUT_SIGN) > INFINITE;
         }
 
         private static boolean isInfinite(int a) {
-            return (a & Integer.MAX_VALUE) == INFINITE;
+            return (a & ALL_BUT_SIGN) == INFINITE;
         }
 
         private static boolean isZero(int a) {
-            return (a & Integer.MAX_VALUE) == 0;
+            return (a & ALL_BUT_SIGN) == 0;
         }
 
         private static int sign(int a) {
-            return a & Integer.MIN_VALUE;
+            return a & SIGN;
         }
 
         /** What is finite is its whole times two to its power. */
@@ -1484,21 +1490,19 @@ public final class FlatHouse {
         }
 
         static int negate(int a) {
-            return isNoNumber(a) ? NO_NUMBER : a ^ Integer.MIN_VALUE;
+            return isNoNumber(a) ? NO_NUMBER : a ^ SIGN;
         }
 
-        static int add(int a, int b) {
-            if (isNoNumber(a) || isNoNumber(b) || isInfinite(a) && isInfinite(b) && a != b) {
+        static int add(int x, int y) {
+            if (isNoNumber(x) || isNoNumber(y) || isInfinite(x) && isInfinite(y) && x != y) {
                 return NO_NUMBER;
             }
-            if (isInfinite(a) || isInfinite(b)) {
-                return isInfinite(a) ? a : b;
+            if (isInfinite(x) || isInfinite(y)) {
+                return isInfinite(x) ? x : y;
             }
-            return power(a) >= power(b) ? addLesser(a, b) : addLesser(b, a);
-        }
-
-        /** b's power is not above a's. Of a b far below only that it is there matters for the rounding. */
-        private static int addLesser(int a, int b) {
+            int a = power(x) >= power(y) ? x : y;
+            int b = power(x) >= power(y) ? y : x;
+            // Of a b that is far below only that it is there matters for the rounding.
             int apart = power(a) - power(b);
             int shift = Math.min(apart, 32);
             long lesser = apart <= 32 ? whole(b) : Math.min(whole(b), 1L);
@@ -1506,15 +1510,11 @@ public final class FlatHouse {
             if (sum == 0) {
                 return sign(a) & sign(b);
             }
-            return nearest(sum < 0 ? Integer.MIN_VALUE : 0, Math.abs(sum), power(a) - shift);
+            return nearest(sum < 0 ? SIGN : 0, Math.abs(sum), power(a) - shift);
         }
 
         private static long signed(int a, long whole) {
             return a < 0 ? -whole : whole;
-        }
-
-        static int subtract(int a, int b) {
-            return add(a, negate(b));
         }
 
         static int multiply(int a, int b) {
@@ -1555,11 +1555,11 @@ public final class FlatHouse {
         }
 
         private static int rank(int a) {
-            return a < 0 ? -(a & Integer.MAX_VALUE) : a;
+            return a < 0 ? -(a & ALL_BUT_SIGN) : a;
         }
 
         static int fromLong(long v) {
-            int sign = v < 0 ? Integer.MIN_VALUE : 0;
+            int sign = v < 0 ? SIGN : 0;
             long size = v < 0 ? -v : v;
             if (size < 0) {
                 return nearest(sign, size >>> 1, 1);
@@ -1573,13 +1573,13 @@ public final class FlatHouse {
             }
             int power = power(a);
             if (power > 39) {
-                return a < 0 ? Long.MIN_VALUE : Long.MAX_VALUE;
+                return a < 0 ? -GREATEST_LONG - 1 : GREATEST_LONG;
             }
             return signed(a, power >= 0 ? whole(a) << power : power < -24 ? 0 : whole(a) >>> -power);
         }
 
         static int toInt(int a) {
-            return (int) Math.max(Integer.MIN_VALUE, Math.min(Integer.MAX_VALUE, toLong(a)));
+            return (int) Math.max(-GREATEST_INT - 1, Math.min(GREATEST_INT, toLong(a)));
         }
     }
 
@@ -1950,7 +1950,7 @@ public final class FlatHouse {
         }
 
         void giveLock(int h) {
-            if (isThing(h) && holds[h] > 0) {
+            if (h > 0 && h <= MOST_THINGS && holds[h] > 0) {
                 holds[h]--;
                 if (holds[h] == 0) {
                     holder[h] = 0;
@@ -2657,7 +2657,7 @@ public final class FlatHouse {
                 case Plan.EQUAL: return Floats.equal(left, right) ? 1 : 0;
                 case Plan.LESS: return Floats.less(left, right) ? 1 : 0;
                 case Plan.ADD: return Floats.add(left, right);
-                case Plan.SUBTRACT: return Floats.subtract(left, right);
+                case Plan.SUBTRACT: return Floats.add(left, Floats.negate(right));
                 case Plan.MULTIPLY: return Floats.multiply(left, right);
                 default: return Floats.divide(left, right);
             }
