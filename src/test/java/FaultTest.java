@@ -11,6 +11,7 @@ public final class FaultTest {
         tooManyInText();
         tooManyLocals();
         tooDeep();
+        tooDeepInStatements();
         unfitTypes();
         unfitEs();
         unfitOperations();
@@ -221,6 +222,26 @@ public final class FaultTest {
         House.faulty(4, "value V { V a ; } fun f ( V v ) { v = " + times(19, "v with a ( ") + "@v");
     }
 
+    /** In nineteen BLOCKS the E of a STATEMENT is the twentieth, an E or BLOCK in it one too many. */
+    private static void tooDeepInStatements() {
+        String open = "class C { int n ; } value V { int x ; } fun g ( int a ) int { } fun f ( int [ ] a , C c , V v ) int " + times(18, "{ if 1 ") + "{ ";
+        String close = " " + times(19, "} ");
+        String[] good = {"int b = 1 ;", "a [ 1 ] = 1 ;", "c . n = 1 ;", "return 1 ;", "out 1 ;", "fail 1 ;", "spawn g ( 1 ) ;", "g ( 1 ) ;",
+            "if 1 { } else { }", "while 1 { }", "lock c { }", "try { } catch e { }"};
+        for (String statement : good) {
+            House.sound(open + statement + close);
+        }
+        String[] deep = {"int b = ( @1 ) ;", "int b = - @1 ;", "a [ ( @1 ) ] = 1 ;", "a [ 1 ] = ( @1 ) ;", "c . n = not @1 ;", "return ( @1 ) ;",
+            "out ( @1 ) ;", "out - @1 ;", "fail ( @1 ) ;", "spawn g ( - @1 ) ;", "g ( - @1 ) ;", "out g ( @1 ) ;", "g ( 1 , ( @1 ) ) ;", "if ( @1 ) { }", "while ( @1 ) { }",
+            "lock ( @c ) { }", "out hash @c ;", "out len @a ;", "out a [ @1 ] ;", "v = v with x ( @1 ) ;", "v = new V ( @1 ) ;", "a = new int [ @1 ] ;",
+            "if 1 { out @1 ; }", "if 1 { } else { out @1 ; }", "if 1 { if @1 { } }", "while 1 { fail @1 ; }", "lock c { return @1 ; }",
+            "try { g ( @1 ) ; } catch e { }", "try { } catch e { spawn g ( @1 ) ; }", "if 1 { try @{ } catch e { } }", "if 1 { int b = @1 ; }",
+            "if 1 { a [ @1 ] = 1 ; }", "if 1 { c . n = @1 ; }", "if 1 { lock @c { } }", "if 1 { while @1 { } }"};
+        for (String statement : deep) {
+            House.faulty(4, open + statement + close);
+        }
+    }
+
     private static void unfitTypes() {
         House.faulty(5, "class A { int @! x ; } fun f ( ) { }");
         House.faulty(5, "class A { any @! x ; } fun f ( ) { }");
@@ -344,6 +365,9 @@ public final class FaultTest {
         body(1, "two ( 1 @; ");
         body(5, "out @none ( ) ;");
         body(5, "out @none ( 1 ) ;");
+        body(5, "out 1 + @none ( ) ;");
+        body(5, "two ( @none ( ) , r ) ;");
+        body(5, "out ( @none ( ) ) . zz ;");
         body(1, "out none ( @; ");
         body(5, "spawn @none ( 1 ) ;");
         body(5, "spawn @two ( 1 ) ;");

@@ -57,7 +57,9 @@ final class House {
         due("program() of " + text, x.program(), fault);
         due("fault(0) of " + text, x.fault(0), fault);
         due("fault(1) of " + text, x.fault(1), place);
-        due("count(2) of " + text, x.count(2), 0);
+        for (int what = 0; what <= 3; what++) {
+            due("count(" + what + ") of " + text, x.count(what), 0);
+        }
     }
 
     /** That the text has this FAULT where the mark @ stands in it (the mark is not of the text). */

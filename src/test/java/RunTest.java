@@ -20,6 +20,7 @@ public final class RunTest {
         trys();
         returns();
         limits();
+        allAtOnce();
         outputs();
         House.finish();
     }
@@ -64,7 +65,8 @@ public final class RunTest {
         House.puts(KINDS, "long m = - ( 2147483647 as long ) ; m = m * m ; out m ; m = m * ( 4 as long ) ; out m ; out - m ;",
                 4611686014132420609L, 4611686014132420609L * 4, -(4611686014132420609L * 4));
         House.puts(KINDS, "long m = 1 as long ; int i = 0 ; while i < 63 { m = m + m ; i = i + 1 ; } out m ; out m / - ( 1 as long ) ; "
-                + "out m % - ( 1 as long ) ; out m - ( 1 as long ) ; out - m ;", Long.MIN_VALUE, Long.MIN_VALUE, 0, Long.MAX_VALUE, Long.MIN_VALUE);
+                + "out m % - ( 1 as long ) ; out m - ( 1 as long ) ; out - m ; out m as float ; out ( m - ( 1 as long ) ) as float ;",
+                Long.MIN_VALUE, Long.MIN_VALUE, 0, Long.MAX_VALUE, Long.MIN_VALUE, 0xdf000000, 0x5f000000);
         House.puts(KINDS, "out not 0 ; out not 5 ; out not - 1 ; out 1 < 2 ; out 2 < 1 ; out 1 < 1 ; out 1 == 1 ; out 1 == 2 ;",
                 1, 0, 0, 1, 0, 0, 1, 0);
         House.puts(KINDS, "out 10 - 2 - 3 ; out 100 / 10 / 5 ; out 2 + 3 * 4 ; out ( 2 + 3 ) * 4 ; out 17 % 10 * 2 ; out 1 + 1 == 2 ;",
@@ -212,7 +214,8 @@ public final class RunTest {
         House.puts(KINDS, "try { try { fail 1 ; } catch e { out e ; } fail 4 ; } catch e { out e ; }", 1, 4);
         House.puts(KINDS + "fun f ( int n ) { if n == 0 { fail 8 ; } f ( n - 1 ) ; }", "int a = 3 ; try { f ( 5 ) ; } catch e { out e ; } out a ;", 8, 3);
         House.puts(KINDS + "fun f ( int n ) int { try { return 10 / n ; } catch e { out e ; } return 7 ; }", "out f ( 0 ) + f ( 5 ) ; out 1 + f ( 0 ) ;", 2, 9, 2, 8);
-        House.fails(KINDS, "try { } catch e { } fail 6 ;", 6);
+        FlatHouse x = House.fails(KINDS, "try { } catch e { out e ; } fail 6 ;", 6);
+        House.due("result(3)", x.result(3), 0);
         House.fails(KINDS + "fun f ( ) { try { return ; } catch e { } }", "f ( ) ; fail 6 ;", 6);
         House.puts(KINDS + "fun f ( V v ) V ! { try { return v ; } catch e { out e ; } return new V ( 4 , 4 ) ; }", "out f ( null ) . x ;", 1, 4);
         House.puts(KINDS, "int i = 0 ; while i < 3 { try { i = i + 1 ; out 6 / ( i - 2 ) ; } catch e { out 100 + e ; } }", -6, 102, 6);
@@ -256,6 +259,22 @@ public final class RunTest {
         House.due("result(2)", x.result(2), 6);
         x = House.fails(KINDS + "fun f ( V ! v , int n ) { f ( v , n + 1 ) ; }", "V v = new V ( 1 , 1 ) ; f ( v , 1 ) ;", 8);
         House.fails(KINDS + "fun f ( V ! v , int n ) { V w = v ; if n == 29 { w = null ; } f ( w , n + 1 ) ; }", "V v = new V ( 1 , 1 ) ; f ( v , 1 ) ;", 1);
+    }
+
+    /** As many objects, elements and values as there may be, with as many FIELDS; all is still as it was put in. */
+    private static void allAtOnce() {
+        FlatHouse x = House.puts("class C { int a ; C b ; long c ; any d ; } value V { int a ; int b ; long c ; any d ; } "
+                + "global C c ; global any [ ] e ; global V v ; global V w ; global int s ; global int k ; "
+                + "fun f ( ) V { V v = null ; return new V ( 1 , 2 , 3 as long , null ) with a ( 4 ) with b ( 5 ) with a ( 6 ) with b ( 7 ) ; }",
+                "e = new any [ 600 ] ; while k < 199 { c = new C ( k , c , k as long , e ) ; e [ k ] = f ( ) ; k = k + 1 ; } v = f ( ) ; "
+                + "try { v = v with a ( 0 ) ; } catch x { out x ; } try { c = new C ( 0 , c , 0 as long , null ) ; } catch x { out x ; } "
+                + "while 0 < k { k = k - 1 ; s = s + c . a + ( e [ k ] as V ) . b ; c = c . b ; } out s ; out v . a ; out c == null ;", 6, 6, 199 * 198 / 2 + 199 * 7, 6, 1);
+        House.due("result(4)", x.result(4), 200);
+        House.due("result(5)", x.result(5), 600);
+        House.due("result(6)", x.result(6), 1000);
+        House.puts("class C { int n ; } global C c ; fun w ( int n ) { lock c { c . n = c . n + n ; } } ",
+                "int i = 0 ; while i < 200 { c = new C ( i ) ; i = i + 1 ; } lock c { } w ( 1 ) ; spawn w ( 10 ) ; spawn w ( 100 ) ; i = 0 ; while i < 50 { i = i + 1 ; } "
+                + "lock c { out c . n ; } out hash c ; any a = c ; out a is C ; out a == c ;", 310, 1, 1, 1);
     }
 
     private static void outputs() {

@@ -7,6 +7,7 @@ public final class TapeTest {
         programs();
         counts();
         words();
+        cutWords();
         House.finish();
     }
 
@@ -99,6 +100,25 @@ public final class TapeTest {
         House.due("count(2)", x.count(2), 3);
         House.due("count(3)", x.count(3), 4 + 7 + 4 + 4 + 6 + 6 + 6);
         House.due("count(4)", x.count(4), -1);
+    }
+
+    /** What is behind the TEXT's end is not of its last word, though the TAPE had it. */
+    private static void cutWords() {
+        cutAt("fun f(){int a=", "=1;}", 1, 14);
+        cutAt("fun f(){int a=1=", "=1;}", 1, 15);
+        cutAt("fun f(){int a=1==", "=1;}", 1, 17);
+        cutAt("fun f(){float a=#1234567", "89;}", 1, 24);
+        cutAt("fun f(){int a=214748364", "70;}", 1, 23);
+        cutAt("fun f(){out abcdefgh", "i;}", 3, 12);
+        cutAt("fun f(){whil", "e 1{}}", 3, 8);
+    }
+
+    private static void cutAt(String text, String rest, int fault, int place) {
+        FlatHouse x = new FlatHouse();
+        House.tape(x, text + rest);
+        House.due("end of " + text, x.end(text.length()), true);
+        House.due("program() of " + text, x.program(), fault);
+        House.due("fault(1) of " + text, x.fault(1), place);
     }
 
     private static void words() {

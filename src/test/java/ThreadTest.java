@@ -14,6 +14,7 @@ public final class ThreadTest {
         ownLock();
         unlocking();
         waitingOnce();
+        cutWithLocks();
         emptyFuns();
         states();
         House.finish();
@@ -198,6 +199,16 @@ public final class ThreadTest {
                 + "fun w ( ) { while not in { } lock it ( ) { out n ; } } "
                 + "fun main ( ) { c = new C ( ) ; spawn w ( ) ; lock c { in = 1 ; while not n { } int i = 0 ; while i < 20 { i = i + 1 ; } } }";
         House.puts(text, 1);
+    }
+
+    /** Locks that a run left held are free in the next one. */
+    private static void cutWithLocks() {
+        FlatHouse x = House.with(LOCKED);
+        for (int steps = 1; steps < 17; steps++) {
+            House.due("run of " + steps, House.go(x, steps, steps), 2);
+            House.due("run of all", House.go(x, steps, 4000), 0);
+            House.due("result(3)", x.result(3), 9);
+        }
     }
 
     private static void emptyFuns() {
