@@ -403,8 +403,8 @@ public final class FlatHouse {
 
         Plan() {
             className = new long[MOST_CLASSES];
-            valued = new boolean[MOST_CLASSES + 1];
-            ring = new boolean[MOST_CLASSES + 1];
+            valued = new boolean[MOST_CLASSES];
+            ring = new boolean[MOST_CLASSES];
             fields = new int[MOST_CLASSES + 1];
             fieldName = new long[MOST_CLASSES * MOST_FIELDS + MOST_GLOBALS];
             fieldType = new int[MOST_CLASSES * MOST_FIELDS + MOST_GLOBALS];
@@ -1615,7 +1615,7 @@ public final class FlatHouse {
             mark = new int[slots];
             payload = new int[Plan.MOST_CLASSES + 1];
             alignment = new int[Plan.MOST_CLASSES + 1];
-            cells = new int[Plan.MOST_CLASSES + 1];
+            cells = new int[Plan.MOST_CLASSES];
             funWords = new int[Plan.MOST_FUNS];
         }
 

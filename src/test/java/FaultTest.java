@@ -231,9 +231,13 @@ public final class FaultTest {
         for (String statement : good) {
             House.sound(open + statement + close);
         }
+        House.faulty(4, "value V { any a ; } fun f ( V v ) { any a = " + times(18, "new V ( ") + "new V ! [ @1 ] ( v )");
+        House.faulty(4, "value V { any a ; } fun f ( V v ) { any a = " + times(17, "new V ( ") + "new V ! [ 1 ] ( ( @v ) )");
+        House.sound("value V { any a ; } fun f ( V v ) { any a = " + times(17, "new V ( ") + "new V ! [ 1 ] ( v ) " + times(17, ") ") + "; }");
         String[] deep = {"int b = ( @1 ) ;", "int b = - @1 ;", "a [ ( @1 ) ] = 1 ;", "a [ 1 ] = ( @1 ) ;", "c . n = not @1 ;", "return ( @1 ) ;",
             "out ( @1 ) ;", "out - @1 ;", "fail ( @1 ) ;", "spawn g ( - @1 ) ;", "g ( - @1 ) ;", "out g ( @1 ) ;", "g ( 1 , ( @1 ) ) ;", "if ( @1 ) { }", "while ( @1 ) { }",
             "lock ( @c ) { }", "out hash @c ;", "out len @a ;", "out a [ @1 ] ;", "v = v with x ( @1 ) ;", "v = new V ( @1 ) ;", "a = new int [ @1 ] ;",
+            "lock new V ! [ @1 ] ( v ) { }", "if 1 { lock @new V ! [ 1 ] ( v ) { } }",
             "if 1 { out @1 ; }", "if 1 { } else { out @1 ; }", "if 1 { if @1 { } }", "while 1 { fail @1 ; }", "lock c { return @1 ; }",
             "try { g ( @1 ) ; } catch e { }", "try { } catch e { spawn g ( @1 ) ; }", "if 1 { try @{ } catch e { } }", "if 1 { int b = @1 ; }",
             "if 1 { a [ @1 ] = 1 ; }", "if 1 { c . n = @1 ; }", "if 1 { lock @c { } }", "if 1 { while @1 { } }"};

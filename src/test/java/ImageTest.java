@@ -12,6 +12,7 @@ public final class ImageTest {
         flat();
         flatWithReferences();
         reach();
+        chain();
         tooLarge();
         again();
         House.finish();
@@ -135,6 +136,20 @@ public final class ImageTest {
                 + "00010000 00000000 00000040 00000000 "
                 + "00000000 00000000 00000000 00000000 "
                 + "00000000 00000000 00000030 00000000");
+    }
+
+    /** All 200 objects in a chain, each behind the one that was made ahead of it. */
+    private static void chain() {
+        FlatHouse x = House.with("class C { C next ; int n ; } global C c ; fun main ( ) { int i = 0 ; while i < 200 { c = new C ( c , i ) ; i = i + 1 ; } }");
+        House.due("run", House.go(x, 0, 4000), 0);
+        House.due("image()", x.image(), 16 + 200 * 16);
+        for (int i = 0; i < 200; i++) {
+            int at = 16 + 16 * i;
+            int before = i == 0 ? 0 : at - 16;
+            House.due("next of " + i, x.byteAt(at + 10) << 8 | x.byteAt(at + 11), before);
+            House.due("n of " + i, x.byteAt(at + 15), i);
+        }
+        House.due("the last one's place", x.byteAt(10) << 8 | x.byteAt(11), 16 * 200);
     }
 
     private static void tooLarge() {

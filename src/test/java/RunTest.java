@@ -21,6 +21,7 @@ public final class RunTest {
         returns();
         limits();
         allAtOnce();
+        muchAtOnce();
         outputs();
         House.finish();
     }
@@ -120,9 +121,15 @@ public final class RunTest {
                 + "out new W ( new V ( 1 , 2 ) , #0 ) == new W ( new V ( 1 , 2 ) , #0 ) ; out new W ( new V ( 1 , 2 ) , #0 ) == new W ( new V ( 2 , 2 ) , #0 ) ;", 1, 0, 1, 0);
         House.puts(KINDS, "R a = new R ( new R ( null , gl ) , gl ) ; out a == new R ( new R ( null , gl ) , gl ) ; out a == new R ( null , gl ) ; out a . up == new R ( null , gl ) ;", 1, 0, 1);
         House.puts(KINDS, "int [ ] a = new int [ 1 ] ; any b = a ; out a == b ; out a == new int [ 1 ] ; out b == null ;", 1, 0, 0);
+        String kept = "value K { int k ; any a ; long l ; K u ; }";
+        House.puts(kept, "long l = 5 as long ; K a = new K ( 1 , new K ( 2 , null , l , null ) , l , null ) ; out a == new K ( 1 , new K ( 2 , null , l , null ) , l , null ) ; "
+                + "out a == new K ( 1 , new K ( 2 , null , l , a ) , l , null ) ; out a == new K ( 1 , new K ( 2 , null , l , null ) , l - l , null ) ; "
+                + "out a == new K ( 1 , null , l , null ) ; out new K ( 1 , null , l , a ) == new K ( 1 , null , l , a with k ( 1 ) ) ; out new K ( 1 , null , l , a ) == new K ( 1 , null , l , null ) ;",
+                1, 0, 0, 0, 1, 0);
     }
 
     private static void isAndAs() {
+        House.puts(KINDS, "any a = null ; out a is C ; out null is C ; out gc is C ; C c = a as C ; out c == null ; C [ ] d = a as C [ ] ; out d == null ;", 0, 0, 0, 1, 1);
         House.puts(KINDS, "any a = new V ( 1 , 2 ) ; out a is V ; out a is C ; out a is Z ; a = null ; out a is V ; a = new V [ 1 ] ; out a is V ; a = new C ( 1 , null ) ; out a is C ;",
                 1, 0, 0, 0, 0, 1);
         House.puts(KINDS, "any a = new V ( 7 , 2 ) ; out ( a as V ) . x ; out ( a as V ! ) . x ; out ( a as any as V ) . x ; a = null ; V v = a as V ; out v == null ; C c = a as C ; int [ ] d = a as int [ ] ; out d == null ;",
@@ -176,7 +183,7 @@ public final class RunTest {
         House.fails(KINDS + "fun f ( V v ) V ! { return v ; }", "f ( null ) ;", 1);
         House.fails(KINDS + "fun f ( ) V ! { }", "f ( ) ;", 1);
         House.fails(KINDS + "fun f ( ) V ! { out 1 ; }", "f ( ) ;", 1);
-        House.puts(KINDS, "V [ ] a = new V [ 2 ] ; out a [ 0 ] == null ; a [ 0 ] = new V ( 1 , 1 ) ; a [ 0 ] = null ; out a [ 0 ] == null ; V ! [ ] b = new V ! [ 2 ] ( new V ( 3 , 4 ) ) ; out b [ 1 ] . x ;", 1, 1, 3);
+        House.puts(KINDS, "V [ ] a = new V [ 2 ] ; out a [ 0 ] == null ; a [ 0 ] = new V ( 1 , 1 ) ; a [ 0 ] = null ; out a [ 0 ] == null ; V ! [ ] b = new V ! [ 2 ] ( new V ( 3 , 4 ) ) ; out b [ 0 ] . x ; out b [ 1 ] . y ;", 1, 1, 3, 4);
     }
 
     private static void otherFailures() {
@@ -275,6 +282,25 @@ public final class RunTest {
         House.puts("class C { int n ; } global C c ; fun w ( int n ) { lock c { c . n = c . n + n ; } } ",
                 "int i = 0 ; while i < 200 { c = new C ( i ) ; i = i + 1 ; } lock c { } w ( 1 ) ; spawn w ( 10 ) ; spawn w ( 100 ) ; i = 0 ; while i < 50 { i = i + 1 ; } "
                 + "lock c { out c . n ; } out hash c ; any a = c ; out a is C ; out a == c ;", 310, 1, 1, 1);
+    }
+
+    /** As many frames as there may be, each with much that waits to be worked out; and a text as long as may be. */
+    private static void muchAtOnce() {
+        for (int waiting = 0; waiting <= 17; waiting++) {
+            StringBuilder e = new StringBuilder("f ( n - 1 )");
+            for (int i = 0; i < waiting; i++) {
+                e.insert(0, "1 + 1 * ( ").append(" )");
+            }
+            FlatHouse x = House.puts("fun f ( int n ) int { if n < 1 { return 0 ; } return " + e + " ; }", "out f ( 28 ) ;", 28 * waiting);
+            House.due("result(8)", x.result(8), 30);
+        }
+        StringBuilder sum = new StringBuilder("fun f(){out 1");
+        while (sum.length() < 2998) {
+            sum.append("+1");
+        }
+        sum.setLength(2997);
+        FlatHouse x = House.puts(sum + " ;}", 1 + (2997 - 13) / 2);
+        House.due("count(3)", x.count(3), 6 + 2985 + 2);
     }
 
     private static void outputs() {

@@ -224,7 +224,9 @@ public final class ThreadTest {
         House.due("result(1)", x.result(1), 3);
         House.due("result(2)", x.result(2), 3);
         House.due("thread(1, 0)", x.thread(1, 0), 2);
+        House.due("thread(1, 2)", x.thread(1, 2), 0);
         House.due("thread(2, 0)", x.thread(2, 0), 3);
+        House.due("thread(2, 2)", x.thread(2, 2), 0);
     }
 
     private static void states() {
