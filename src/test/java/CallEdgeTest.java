@@ -22,6 +22,7 @@ public final class CallEdgeTest {
         threads();
         images();
         bytesAt();
+        allCalls();
         House.finish();
     }
 
@@ -115,7 +116,9 @@ public final class CallEdgeTest {
             House.due("byteAt(0)", x.byteAt(0), -1);
             House.due("image()", x.image(), -1);
             House.due("count(0)", x.count(0), 0);
+            House.due("count(1)", x.count(1), 0);
             House.due("count(2)", x.count(2), fault == 0 ? 1 : 0);
+            House.due("count(3)", x.count(3), fault == 0 ? 6 : 0);
             House.due("type(0, 0)", x.type(0, 0), -1);
             House.due("slot(-1, 0, 0)", x.slot(-1, 0, 0), -1);
             House.due("element(7, 1)", x.element(7, 1), -1);
@@ -455,5 +458,25 @@ public final class CallEdgeTest {
         x.program();
         House.due("byteAt behind program()", x.byteAt(0), -1);
         House.due("image() behind program()", x.image(), -1);
+    }
+
+    /** "An object is used for at most 512 calls after it has been made": the last is as good as the first. */
+    private static void allCalls() {
+        FlatHouse x = new FlatHouse();
+        int calls = 0;
+        String text = "class C{int n;}global C c;fun w(){lock c{c.n=c.n+1;}}fun f(){c=new C(hash c);spawn w();spawn w();fail 1;}";
+        while (calls < 500) {
+            House.tape(x, text);
+            calls += (text.length() + 19) / 20 + 1;
+            House.due("program() as call " + calls, x.program(), 0);
+            for (int i = 0; i < 12; i++) {
+                House.due("run as call " + calls, x.run(1, calls, 100), 0);
+                House.due("result(4) as call " + calls, x.result(4), 1);
+                House.due("image() as call " + calls, x.image(), 32);
+                House.due("byteAt(27) as call " + calls, x.byteAt(27), 2);
+            }
+            calls += 1 + 4 * 12;
+        }
+        House.due("as many calls as may be", calls <= 512, true);
     }
 }

@@ -123,6 +123,18 @@ public final class CountEdgeTest {
         House.faulty(1, "fun f(" + many(3, "int p?", ",") + ",@){}");
         House.faulty(5, "fun f(" + many(3, "int p?", ",") + ",int@! p3){}");
         House.faulty(2, "fun f(int p0,int p1,int @p0){}");
+        // Three of each of ten FUNS.
+        StringBuilder calls = new StringBuilder();
+        for (int k = 0; k < 9; k++) {
+            calls.append("out f").append(k).append("(").append(k).append(",").append(-k).append(" as long,null);");
+        }
+        FlatHouse x = House.with(many(9, "fun f?(byte a,long b,any c)int{return a*?;}") + "fun f9(int a,any[]b,float c){" + calls + "}");
+        for (int k = 0; k < 10; k++) {
+            House.due("fun(" + k + ", 0)", x.fun(k, 0), 3);
+            House.due("fun(" + k + ", 2)", x.fun(k, 2), k < 9 ? 4 : 3);
+        }
+        x = House.puts(many(9, "fun f?(int a,long b,byte c)long{if c{return b;}return(a*?)as long;}"), calls.toString().replace("null", "256"), 0, 1, 4, 9, 16, 25, 36, 49, 64);
+        House.puts(many(9, "fun f?(int a,long b,byte c)long{if c{return b;}return(a*?)as long;}"), calls.toString().replace("null", "255"), 0, -1, -2, -3, -4, -5, -6, -7, -8);
     }
 
     /** "8 LOCALS that are there at once (parameters, too)"; one more is told at its NAME. */
@@ -159,6 +171,9 @@ public final class CountEdgeTest {
             puts.append("out a").append(i).append("; ");
         }
         House.puts("", seven + "int b=70; a3=30; " + puts + "out b;", 0, 1, 2, 30, 4, 5, 6, 70);
+        // CALLS between, with a RESULT and without, leave them alone.
+        House.puts("fun n(int a){a=99;}fun r(int a,int b)int{a=98;return b;}",
+                seven + "int b=70; n(1);n(2);r(3,4);n(r(5,6));spawn n(7);if b{n(r(8,9));} a0=r(7,8)+r(9,10); " + puts + "out b;", 18, 1, 2, 3, 4, 5, 6, 70);
     }
 
     /** A wrong number of Es, one too few and one too many, at the NAME. */

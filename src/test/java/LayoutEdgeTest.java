@@ -297,6 +297,19 @@ public final class LayoutEdgeTest {
         House.due("element(6, 2) of a RING with !", x.element(6, 2), 1);
         House.due("element(9, 2) of none", x.element(9, 2), 3);
         House.due("fun(0, 2)", x.fun(0, 2), 1 + 4 + 2);
+        // The CLASS of this number in the next program is none.
+        House.tape(x, "value R{byte r;}value S{R! a;}global R r;fun f(R a){}");
+        House.due("program()", x.program(), 0);
+        House.due("type(0, 4)", x.type(0, 4), 1);
+        House.due("type(0, 5)", x.type(0, 5), 1);
+        House.due("slot(-1, 0, 2)", x.slot(-1, 0, 2), 2);
+        House.due("fun(0, 2)", x.fun(0, 2), 2);
+        House.tape(x, "class R{byte r;}class S{R a;}global R r;fun f(R a){}");
+        House.due("program()", x.program(), 0);
+        House.due("type(0, 4)", x.type(0, 4), 0);
+        House.due("type(0, 5)", x.type(0, 5), 0);
+        House.due("slot(-1, 0, 2)", x.slot(-1, 0, 2), 1);
+        House.due("element(6, 1)", x.element(6, 1), -1);
     }
 
     /** "It GOES IN CELLS if it is no RING, and these are at most PARTS". */

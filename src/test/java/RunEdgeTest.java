@@ -219,6 +219,8 @@ public final class RunEdgeTest {
         caught(ahead, "any[]a=new any[1];a[0]=mk(40);" + tried("ga=new A(a,new B(1,new V(1,1)));ga=new A(ga,a);"));
         // Objects and arrays have no WEIGHT: they hold any value.
         caught(ahead + "fun k(any a){ga=a;}", "V![]v=new V![3](new V(1,1));any[]a=new any[2];a[0]=mk(40);a[1]=a;k(a);" + tried("gc=new C(1,null);"));
+        // Numbers weigh nothing, whatever they are.
+        caught("", "R r=null;" + loop(40, "r=new R(r,gl);") + "i=-5;while i<260{V v=new V(i,i);ga=new R(null,i as long);i=i+1;}");
         caught("", "N n=new N(new V(1,1),null);R r=null;" + loop(38, "r=new R(r,gl);") + tried("n=n with r(r);") + tried("n=n with r(new R(r,gl));"), 7);
     }
 
@@ -349,6 +351,8 @@ public final class RunEdgeTest {
             House.puts(KINDS + "fun f()" + t + "{}fun g()" + t + "{gi=1;}", "out f()==null;out g()==null;f();g();", 1, 1);
         }
         caught("fun f()V!{}fun g()V!{gi=1;}fun h(int n)V!{if n{return new V(n,n);}}", tried("f();") + tried("g();") + tried("ga=f();") + tried("h(0);") + "out h(5).x;" + tried("out 1+h(0).x;"), 1, 1, 1, 1, 5, 1);
+        // What is in its LOCALS is not what it gives.
+        House.puts("fun f()int{int a=1;int b=2;int c=3;int d=4;int e=5;int f=6;int g=7;int h=8;}fun g(int a)byte{a=9;}", "out f();out f()+1;out g(5);", 0, 1, 0);
         // The try of the FUN itself is no longer open at its end.
         caught("fun f()V!{try{gi=1;}catch e{out 99;}}", tried("f();"), 1);
     }

@@ -46,7 +46,14 @@ public final class WordEdgeTest {
             House.faulty(text.substring(0, many - 1) + "x", 1, many - 1);
             House.faulty("fun f(){" + " ".repeat(many - 8), 1, many);
         }
-        FlatHouse x = new FlatHouse();
+        // As many words as a text can have.
+        House.faulty(";".repeat(3000), 1, 0);
+        House.faulty(1, "@?" + ";".repeat(2999));
+        House.faulty("fun f(){" + "f();".repeat(748), 1, 3000);
+        House.faulty(1, "fun f(){" + "f();".repeat(747) + "}@)))");
+        FlatHouse x = House.with("fun f(){" + "f();".repeat(747) + "}   ");
+        House.due("count(3)", x.count(3), 6 + 4 * 747);
+        x = new FlatHouse();
         House.due("3001 bytes come", House.tape(x, "fun f(){}" + " ".repeat(2992)), false);
         House.due("3000 bytes stay", x.end(3000), true);
         House.due("program() of 3000", x.program(), 0);
