@@ -1110,7 +1110,9 @@ public final class FlatHouse {
                 if (Plan.isNeverNull(t) && Plan.classOf(t) == c) {
                     in.stop(Reader.UNFIT, in.bangAt);
                 }
-                plan.ring[c] |= valued && t == Plan.classType(c);
+                if (valued && t == Plan.classType(c)) {
+                    plan.ring[c] = true;
+                }
                 readFieldName(c, Plan.MOST_FIELDS, t);
             }
             in.take('}');
