@@ -417,6 +417,56 @@ public final class FaultTest {
         body(1, "out q as @?");
         body(5, "out q @as int ?");
         House.faulty(5, "value A { A @! ? } fun");
+        House.faulty(5, "value A { } global A @! ?");
+        House.faulty(5, "value A { } global A @! [");
+        House.faulty(5, "fun f ( int @! ?");
+        // What is told of the left alone is ahead of all behind the word, be it no word or nothing.
+        for (String behind : new String[] {"?", "", ";", "zz", "5"}) {
+            String open = KINDS + "fun main ( int p , any q , V! r ) { out ";
+            House.faulty(5, open + "p @. " + behind);
+            House.faulty(5, open + "q @[ " + behind);
+            House.faulty(5, open + "p @is " + behind);
+            House.faulty(5, open + "q @with " + behind);
+        }
+        // All other operations are told when they are complete.
+        body(1, "out null + @?");
+        body(3, "out null + @zz");
+        body(5, "out null @+ 1 ?");
+        body(1, "out null < @?");
+        body(5, "out null @< 1 ?");
+        body(1, "out 1 == @?");
+        body(5, "out 1 @== null ?");
+        body(1, "out - @?");
+        body(3, "out - @zz");
+        body(5, "out @- null ?");
+        body(1, "out p as @?");
+        body(3, "out p as @zz");
+        body(5, "out p @as V ?");
+        body(1, "none ( 1 @?");
+        body(3, "none ( @zz");
+        body(1, "none ( @?");
+        body(3, "out none ( @zz )");
+        body(1, "out none ( @?");
+        body(1, "out none ( 1 @?");
+        body(5, "out @none ( 1 ) ?");
+        body(1, "q = new C ( 1 @?");
+        body(5, "q = new @C ( 1 ) ?");
+        body(1, "return @?");
+        body(5, "@return 1 ?");
+        body(5, "@return null ?");
+        body(5, "return 1 @+ null ?");
+        body(1, "gc . n @?");
+        body(1, "gv . x @?");
+        body(1, "int a @?");
+        body(5, "int a = @gl ?");
+        body(5, "two ( @null ?");
+        body(5, "q = new V ! [ @null ?");
+        body(5, "q = new V ! [ 1 ] ( @null ?");
+        body(5, "q = r with x ( @null ?");
+        body(5, "lock @1 ?");
+        body(5, "out @null ?");
+        body(5, "fail @null ?");
+        body(5, "while @null ?");
         House.faulty(5, "fun f ( ) int { @return ; ?");
     }
 
